@@ -158,14 +158,11 @@ public final class EchoTune {
     }
 
     public int least(int n) {
-        if (n < 1 || n > TABLE_BEATS || !tables.ready()) {
-            return NONE;
-        }
-        return way.leastMotion(n);
+        return canTellLeast(n) ? way.leastMotion(n) : NONE;
     }
 
     public int leastAt(int n, int beat) {
-        if (beat < 0 || beat >= n || n > TABLE_BEATS || !tables.ready() || way.leastMotion(n) == NONE) {
+        if (beat < 0 || beat >= n || !canTellLeast(n) || way.leastMotion(n) == NONE) {
             return NO_BEAT;
         }
         return way.leastNote(beat);
@@ -191,17 +188,11 @@ public final class EchoTune {
     }
 
     public int mend() {
-        if (state.length < 1 || state.length > TABLE_BEATS || !tables.ready()) {
-            return NONE;
-        }
-        return way.fewestChanges();
+        return canMend() ? way.fewestChanges() : NONE;
     }
 
     public int mendAt(int beat) {
-        if (beat < 0 || beat >= state.length || state.length > TABLE_BEATS || !tables.ready()) {
-            return NO_BEAT;
-        }
-        if (way.fewestChanges() == NONE) {
+        if (beat < 0 || beat >= state.length || !canMend() || way.fewestChanges() == NONE) {
             return NO_BEAT;
         }
         return way.mendedNote(beat);
@@ -292,6 +283,14 @@ public final class EchoTune {
         }
     }
 
+    private boolean canTellLeast(int n) {
+        return n >= 1 && n <= TABLE_BEATS && tables.ready();
+    }
+
+    private boolean canMend() {
+        return state.length >= 1 && state.length <= TABLE_BEATS && tables.ready();
+    }
+
     private void rockChanged() {
         judge.forget();
         tables.forget();
@@ -304,6 +303,11 @@ public final class EchoTune {
     private void fixedChanged() {
         tally.forget();
         way.forgetLeast();
+    }
+
+    /** Rows grow at least twofold, so that all that are ever made are not much more than the last. */
+    private static int roomFor(int need, int had, int most) {
+        return Math.max(need, Math.min(2 * had, most));
     }
 
     /** No BEAT behind this one sounds: an echo with the pace twice takes two BEATS for each. */
@@ -530,6 +534,7 @@ public final class EchoTune {
 
         private static final int LINES = 8;
 
+        // The notes are never below 2 and the meter never below 1, so both may divide.
         int notes = 7;
         int meter = 4;
         int echoes;
@@ -1029,11 +1034,22 @@ public final class EchoTune {
         int howManyFixed() {
             int many = 0;
             for (int beat = 0; beat < TABLE_BEATS; beat++) {
-                if (fixed[beat] != FREE) {
-                    many++;
-                }
+                many += isFree(beat) ? 0 : 1;
             }
             return many;
+        }
+
+        /** The least and the greatest digit, as TABLES have them, that a BEAT is free to take. */
+        int lowDigit(int beat) {
+            return isFree(beat) ? 1 : fixed[beat] + 1;
+        }
+
+        int highDigit(int beat) {
+            return isFree(beat) ? rock.notes : fixed[beat] + 1;
+        }
+
+        private boolean isFree(int beat) {
+            return beat < 0 || beat >= TABLE_BEATS || fixed[beat] == FREE;
         }
 
         int sung(int beat) {
@@ -1283,7 +1299,7 @@ public final class EchoTune {
         private final Judge judge;
         // past[j] is what was sung j BEATS ago.
         private final int[] past = new int[MOST_DEPTH + 1];
-        // For each state and strength the signs that keep the law next, as bits.
+        // For each state and strength the digits that keep the law next, as bits.
         private int[] allowed;
         private boolean measured;
         private boolean filled;
@@ -1319,11 +1335,11 @@ public final class EchoTune {
             if (!areThere()) {
                 return false;
             }
-            if (allowed == null) {
-                allowed = new int[2 * MOST_STATES];
+            if (allowed == null || allowed.length < 2 * size) {
+                allowed = new int[roomFor(2 * size, allowed == null ? 0 : allowed.length, 2 * MOST_STATES)];
             }
             if (!filled) {
-                for (int s = 0; s < size && s < MOST_STATES; s++) {
+                for (int s = 0; s < size; s++) {
                     layVoices(s);
                     allowed[2 * s] = rock.meter > 1 ? findAllowed(0) : 0;
                     allowed[2 * s + 1] = findAllowed(1);
@@ -1333,18 +1349,18 @@ public final class EchoTune {
             return true;
         }
 
-        int after(int state, int sign) {
-            return size > 0 ? (state * (rock.notes + 1) + sign) % size : 0;
+        int after(int state, int digit) {
+            return size > 0 ? (state * (rock.notes + 1) + digit) % size : 0;
         }
 
-        int lastSign(int state) {
+        int lastDigit(int state) {
             return state % (rock.notes + 1);
         }
 
-        /** The signs that keep the law in a BEAT behind a state, as bits. */
+        /** The digits that keep the law in a BEAT behind a state, as bits. */
         int allowedIn(int beat, int state) {
             int slot = 2 * state + rock.strongAt(beat);
-            return allowed == null || slot < 0 || slot >= 2 * MOST_STATES ? 0 : allowed[slot];
+            return allowed == null || slot < 0 || slot >= allowed.length ? 0 : allowed[slot];
         }
 
         /** Whether the echoes behind the end keep the law, if the tune ends ahead of a BEAT. */
@@ -1367,14 +1383,14 @@ public final class EchoTune {
                     return 0;
                 }
             }
-            int signs = 0;
-            for (int sign = 0; sign <= rock.notes; sign++) {
-                judge.now[0] = sign == 0 ? SILENT : sign - 1;
+            int digits = 0;
+            for (int digit = 0; digit <= rock.notes; digit++) {
+                judge.now[0] = digit == 0 ? SILENT : digit - 1;
                 if (judge.brokenLeap(strong) < 0 && judge.faultOf(0, voices, strong) == NONE) {
-                    signs |= 1 << sign;
+                    digits |= 1 << digit;
                 }
             }
-            return signs;
+            return digits;
         }
 
         private void layVoices(int state) {
@@ -1409,6 +1425,7 @@ public final class EchoTune {
         private long[] next;
         // How many BEATS the row stands for; NONE if it is not made yet.
         private int beats = NONE;
+        private int limbs = LIMBS;
 
         Tally(State state, Tables tables) {
             this.state = state;
@@ -1434,25 +1451,28 @@ public final class EchoTune {
         }
 
         private void begin() {
-            if (row == null) {
-                row = new long[LIMBS * MOST_STATES];
-                next = new long[LIMBS * MOST_STATES];
+            int need = LIMBS * tables.size;
+            if (row == null || row.length < need) {
+                int room = roomFor(need, row == null ? 0 : row.length, LIMBS * MOST_STATES);
+                row = new long[room];
+                next = new long[room];
             }
-            Arrays.fill(row, 0, LIMBS * tables.size, 0L);
+            Arrays.fill(row, 0, need, 0L);
             row[0] = 1;
             beats = 0;
         }
 
         private void goOn() {
             Arrays.fill(next, 0, LIMBS * tables.size, 0L);
-            int fixed = beats < TABLE_BEATS ? state.fixed[beats] : FREE;
-            int low = fixed == FREE ? 1 : fixed + 1;
-            int high = fixed == FREE ? state.rock.notes : fixed + 1;
+            // Twelve notes give less than 108 digits in 100 BEATS, a limb holds 18.
+            limbs = Math.min(LIMBS, 1 + (beats + 1) * 108 / 1800);
+            int low = state.lowDigit(beats);
+            int high = state.highDigit(beats);
             for (int s = 0; s < tables.size; s++) {
-                int signs = isEmptyAt(s) ? 0 : tables.allowedIn(beats, s);
-                for (int sign = low; sign <= high && signs != 0; sign++) {
-                    if ((signs >> sign & 1) == 1) {
-                        add(next, LIMBS * tables.after(s, sign), s);
+                int digits = isEmptyAt(s) ? 0 : tables.allowedIn(beats, s);
+                for (int digit = low; digit <= high && digits != 0; digit++) {
+                    if ((digits >> digit & 1) == 1) {
+                        add(next, LIMBS * tables.after(s, digit), s);
                     }
                 }
             }
@@ -1480,7 +1500,7 @@ public final class EchoTune {
 
         private void add(long[] to, int at, int s) {
             long carry = 0;
-            for (int i = 0; i < LIMBS; i++) {
+            for (int i = 0; i < limbs; i++) {
                 long sum = to[at + i] + row[LIMBS * s + i] + carry;
                 carry = sum >= LIMB ? 1 : 0;
                 to[at + i] = carry == 1 ? sum - LIMB : sum;
@@ -1491,10 +1511,11 @@ public final class EchoTune {
     /** LEAST and MEND: the cheapest way through the TABLES, of equal ones the first by its notes. */
     private static final class Way {
         private static final int NO_WAY = 1000000;
-        // What is kept of a state in a BEAT: 0 if no way leads there, 1 if none leads on, 2 + the sign.
+        // What is kept of a state in a BEAT: 0 if no way leads there, 1 if none leads on, 2 + the digit.
         private static final int REACHED = 1;
         private static final int CHOSEN = 2;
         private static final int IN_A_LONG = 16;
+        private static final int MOST_KEPT = (TABLE_BEATS + 1) * MOST_STATES / IN_A_LONG + 1;
 
         private final State state;
         private final Tables tables;
@@ -1530,9 +1551,8 @@ public final class EchoTune {
             if (leastLength != n) {
                 byMotion = true;
                 for (int beat = 0; beat < n && beat < TABLE_BEATS; beat++) {
-                    int fixed = state.fixed[beat];
-                    low[beat] = fixed == FREE ? 1 : fixed + 1;
-                    high[beat] = fixed == FREE ? state.rock.notes : fixed + 1;
+                    low[beat] = state.lowDigit(beat);
+                    high[beat] = state.highDigit(beat);
                 }
                 leastCost = find(n, leastRow);
                 leastLength = n;
@@ -1567,8 +1587,7 @@ public final class EchoTune {
             if (n < 1 || n > TABLE_BEATS) {
                 return NONE;
             }
-            makeRows();
-            Arrays.fill(kept, 0, (n + 1) * tables.size / IN_A_LONG + 1, 0L);
+            makeRows((n + 1) * tables.size / IN_A_LONG + 1);
             keep(0, 0, REACHED);
             for (int beat = 0; beat < n; beat++) {
                 reachFrom(beat);
@@ -1587,20 +1606,24 @@ public final class EchoTune {
             return costBehind[0];
         }
 
-        private void makeRows() {
-            if (kept == null) {
-                kept = new long[(TABLE_BEATS + 1) * MOST_STATES / IN_A_LONG + 1];
-                cost = new int[MOST_STATES];
-                costBehind = new int[MOST_STATES];
+        private void makeRows(int need) {
+            if (kept == null || kept.length < need) {
+                kept = new long[roomFor(need, kept == null ? 0 : kept.length, MOST_KEPT)];
             }
+            if (cost == null || cost.length < tables.size) {
+                int room = roomFor(tables.size, cost == null ? 0 : cost.length, MOST_STATES);
+                cost = new int[room];
+                costBehind = new int[room];
+            }
+            Arrays.fill(kept, 0, need, 0L);
         }
 
         private void reachFrom(int beat) {
             for (int s = 0; s < tables.size; s++) {
-                int signs = keptOf(beat, s) == 0 ? 0 : tables.allowedIn(beat, s);
-                for (int sign = low[beat]; sign <= high[beat] && signs != 0; sign++) {
-                    if ((signs >> sign & 1) == 1) {
-                        keep(beat + 1, tables.after(s, sign), REACHED);
+                int digits = keptOf(beat, s) == 0 ? 0 : tables.allowedIn(beat, s);
+                for (int digit = low[beat]; digit <= high[beat] && digits != 0; digit++) {
+                    if ((digits >> digit & 1) == 1) {
+                        keep(beat + 1, tables.after(s, digit), REACHED);
                     }
                 }
             }
@@ -1620,34 +1643,34 @@ public final class EchoTune {
 
         private void choose(int beat, int s) {
             int chosen = REACHED;
-            int signs = tables.allowedIn(beat, s);
-            for (int sign = low[beat]; sign <= high[beat]; sign++) {
-                if ((signs >> sign & 1) == 0) {
+            int digits = tables.allowedIn(beat, s);
+            for (int digit = low[beat]; digit <= high[beat]; digit++) {
+                if ((digits >> digit & 1) == 0) {
                     continue;
                 }
-                int whole = costBehind[tables.after(s, sign)] + costOf(beat, s, sign);
+                int whole = costBehind[tables.after(s, digit)] + costOf(beat, s, digit);
                 if (whole < cost[s]) {
                     cost[s] = whole;
-                    chosen = CHOSEN + sign;
+                    chosen = CHOSEN + digit;
                 }
             }
             keep(beat, s, chosen);
         }
 
-        private int costOf(int beat, int s, int sign) {
+        private int costOf(int beat, int s, int digit) {
             if (!byMotion) {
-                return sign == wanted[beat] ? 0 : 1;
+                return digit == wanted[beat] ? 0 : 1;
             }
-            int last = tables.lastSign(s);
-            return last == 0 || sign == 0 ? 0 : Math.abs(sign - last);
+            int last = tables.lastDigit(s);
+            return last == 0 || digit == 0 ? 0 : Math.abs(digit - last);
         }
 
         private void follow(int n, int[] found) {
             int s = 0;
             for (int beat = 0; beat < n; beat++) {
-                int sign = Math.max(0, keptOf(beat, s) - CHOSEN);
-                found[beat] = sign - 1;
-                s = tables.after(s, sign);
+                int digit = Math.max(0, keptOf(beat, s) - CHOSEN);
+                found[beat] = digit - 1;
+                s = tables.after(s, digit);
             }
         }
 
@@ -1670,8 +1693,8 @@ public final class EchoTune {
      */
     private static final class Forever {
         private static final int ROW = 1000;
-        // A step of the way is 16 times the place and the sign that leads on from it.
-        private static final int SIGNS = 16;
+        // A step of the way is 16 times the place and the digit that leads on from it.
+        private static final int DIGITS = 16;
 
         private final Rock rock;
         private final Tables tables;
@@ -1713,7 +1736,7 @@ public final class EchoTune {
             makeRows(places);
             wayLength = 0;
             enter(0);
-            int steps = places * SIGNS;
+            int steps = places * DIGITS;
             for (int i = 0; i < steps && wayLength > 0 && !isEndless; i++) {
                 tryNext();
             }
@@ -1721,15 +1744,16 @@ public final class EchoTune {
 
         private void makeRows(int places) {
             if (seen == null || seen.length < places) {
-                seen = new int[places];
-                way = new int[places];
+                int room = roomFor(places, seen == null ? 0 : seen.length, MOST_METER * MOST_STATES);
+                seen = new int[room];
+                way = new int[room];
             }
             Arrays.fill(seen, 0, places, 0);
         }
 
         private void enter(int place) {
             if (wayLength < way.length) {
-                way[wayLength] = place * SIGNS;
+                way[wayLength] = place * DIGITS;
                 wayLength++;
                 seen[place] = wayLength;
             }
@@ -1737,12 +1761,12 @@ public final class EchoTune {
 
         private void tryNext() {
             way[wayLength - 1]++;
-            int place = way[wayLength - 1] / SIGNS;
-            int sign = way[wayLength - 1] % SIGNS;
-            if (sign > rock.notes) {
+            int place = way[wayLength - 1] / DIGITS;
+            int digit = way[wayLength - 1] % DIGITS;
+            if (digit > rock.notes) {
                 leave(place);
-            } else if (leadsOn(place, sign)) {
-                int to = placeAfter(place, sign);
+            } else if (leadsOn(place, digit)) {
+                int to = placeAfter(place, digit);
                 if (seen[to] == 0) {
                     enter(to);
                 } else if (seen[to] > 0) {
@@ -1753,9 +1777,9 @@ public final class EchoTune {
 
         private void leave(int place) {
             int beats = 0;
-            for (int sign = 1; sign <= rock.notes; sign++) {
-                if (leadsOn(place, sign)) {
-                    beats = Math.max(beats, -seen[placeAfter(place, sign)]);
+            for (int digit = 1; digit <= rock.notes; digit++) {
+                if (leadsOn(place, digit)) {
+                    beats = Math.max(beats, -seen[placeAfter(place, digit)]);
                 }
             }
             seen[place] = -1 - beats;
@@ -1771,17 +1795,17 @@ public final class EchoTune {
             isEndless = true;
             for (int i = 0; i < ROW; i++) {
                 int at = i < wayLength ? i : from + (i - from) % circle;
-                row[i] = way[at] % SIGNS - 1;
+                row[i] = way[at] % DIGITS - 1;
             }
         }
 
-        private boolean leadsOn(int place, int sign) {
-            return (tables.allowedIn(place / tables.size, place % tables.size) >> sign & 1) == 1;
+        private boolean leadsOn(int place, int digit) {
+            return (tables.allowedIn(place / tables.size, place % tables.size) >> digit & 1) == 1;
         }
 
-        private int placeAfter(int place, int sign) {
+        private int placeAfter(int place, int digit) {
             int phase = (place / tables.size + 1) % rock.meter;
-            return phase * tables.size + tables.after(place % tables.size, sign);
+            return phase * tables.size + tables.after(place % tables.size, digit);
         }
     }
 
@@ -1821,7 +1845,7 @@ public final class EchoTune {
             }
             if (many[k] == NONE) {
                 int rows = Math.min(rowsOf(k), MOST_ROWS);
-                makeRows();
+                makeRows(rows);
                 for (int row = 0; row < rows; row++) {
                     layVoices(row, k);
                     kept[row] = (byte) (2 * keeps(1) + keeps(0));
@@ -1844,9 +1868,9 @@ public final class EchoTune {
             return first[k] / rowsOf(k - 1 - i) % rock.notes;
         }
 
-        private void makeRows() {
-            if (kept == null) {
-                kept = new byte[MOST_ROWS];
+        private void makeRows(int rows) {
+            if (kept == null || kept.length < rows) {
+                kept = new byte[roomFor(rows, kept == null ? 0 : kept.length, MOST_ROWS)];
             }
         }
 

@@ -1688,8 +1688,9 @@ public final class EchoTune {
     }
 
     /**
-     * ENDLESS and LONGEST: a search from the time before BEAT 0 on, least notes first. The first
-     * place that comes again on the way closes a circle, on which the row can go on for ever.
+     * ENDLESS and LONGEST: a search from the time before BEAT 0 on, least notes first. A place is a
+     * state and how far its BEAT lies behind a strong one. The first place that comes again on the
+     * way closes a circle, on which the row can go on for ever.
      */
     private static final class Forever {
         private static final int ROW = 1000;
@@ -1702,6 +1703,7 @@ public final class EchoTune {
         private boolean known;
         private boolean isEndless;
         private int most;
+        private int size = 1;
         private int[] way;
         private int wayLength;
         // Of each place: 0 not seen; 1 + where on the way; -1 less the BEATS that can follow.
@@ -1732,7 +1734,8 @@ public final class EchoTune {
             }
             known = true;
             isEndless = false;
-            int places = rock.meter * tables.size;
+            size = Math.max(1, tables.size);
+            int places = rock.meter * size;
             makeRows(places);
             wayLength = 0;
             enter(0);
@@ -1800,12 +1803,12 @@ public final class EchoTune {
         }
 
         private boolean leadsOn(int place, int digit) {
-            return (tables.allowedIn(place / tables.size, place % tables.size) >> digit & 1) == 1;
+            return (tables.allowedIn(place / size, place % size) >> digit & 1) == 1;
         }
 
         private int placeAfter(int place, int digit) {
-            int phase = (place / tables.size + 1) % rock.meter;
-            return phase * tables.size + tables.after(place % tables.size, digit);
+            int phase = (place / size + 1) % rock.meter;
+            return phase * size + tables.after(place % size, digit);
         }
     }
 
@@ -1884,7 +1887,7 @@ public final class EchoTune {
 
         private boolean isRound(int row, int k, int rows) {
             int common = commonDivisor(k, rock.meter);
-            int top = rows / rock.notes;
+            int top = Math.max(1, rows / rock.notes);
             int turned = row;
             for (int beat = 0; beat < k; beat++) {
                 boolean isStrong = beat % common == 0;

@@ -454,6 +454,9 @@ public final class PromiseTest {
         due("or of 4", on("leap (4 or 0)=1;", "0 0").clashes(), 0);
         due("and of 4", on("leap (4 and 2)=1;", "0 0").clashes(), 0);
         due("not of 4", on("leap not 4=0;", "0 0").clashes(), 0);
+        due("not of 0", on("leap not 0=1;", "0 0").clashes(), 0);
+        due("below gives 1", on("leap (1<4)=1 and (4<1)=0;", "0 0").clashes(), 0);
+        due("equal gives 1", on("leap (4=4)=1 and (4=1)=0;", "0 0").clashes(), 0);
         due("not binds close", on("leap not 0+1=2;", "0 0").clashes(), 0);
         due("from the left", on("leap 1 or 1 and 0;", "0 0").clashes(), 1);
         due("less from the left", on("leap 9-4-3=2;", "0 0").clashes(), 0);
@@ -519,6 +522,19 @@ public final class PromiseTest {
         due("many(1, -1)", x.many(1, -1), -1);
         due("many(1, 8)", x.many(1, 8), -1);
         due("no TABLES", on("echo late 9 up 1;").many(1, 0), -1);
+        // Ten notes: here all nine digits of many parts are 0 together.
+        EchoTune ten = on("notes 10;");
+        for (int n = 1; n <= 60; n++) {
+            for (int p = 0; p < 8; p++) {
+                long digit = n / 9 == p ? (long) Math.pow(10, n % 9) : 0;
+                due("many(" + n + ", " + p + ") of ten", ten.many(n, p), digit);
+            }
+        }
+        ten.fix(0, -1);
+        ten.fix(1, -1);
+        due("a rest alone", ten.many(1, 0), 1);
+        due("rests alone", ten.many(2, 0), 1);
+        due("rests ahead", ten.many(3, 0), 10);
         // Behind the end two echoes clash, which the singer can't mend.
         x = on("notes 2;echo late 1 up 0;echo late 2 up 0;law apart;");
         due("many(1, 0)", x.many(1, 0), 2);
@@ -804,6 +820,7 @@ public final class PromiseTest {
             due("count(0)", x.count(0), 9);
             due("count(3)", x.count(3), 1);
             due("note(0)", x.note(0), 8);
+            due("mend()", x.mend(), 0);
             due("count(7)", x.count(7), 2);
         }
         due("mark(0) anew", x.mark(0, false), true);

@@ -2,91 +2,10 @@ import java.lang.reflect.Constructor;
 import java.lang.reflect.Field;
 import java.lang.reflect.Method;
 import java.lang.reflect.Modifier;
-import java.util.NoSuchElementException;
 import java.util.TreeSet;
 
 /** One method for each promise of the document: ordinary inputs, the edges it names, wrong inputs. */
-public final class PromiseTest {
-    private static int wrong = 0;
-    private static int asked = 0;
-    private static String promise = "";
-
-    private static void due(String what, long got, long want) {
-        asked++;
-        if (got != want) {
-            wrong++;
-            System.out.println(promise + ": " + what + " answered " + got + ", due is " + want);
-        }
-    }
-
-    private static void due(String what, boolean got, boolean want) {
-        due(what, got ? 1 : 0, want ? 1 : 0);
-    }
-
-    private static void silent(EchoTune x, int voice, int beat) {
-        boolean thrown = false;
-        try {
-            x.voice(voice, beat);
-        } catch (NoSuchElementException e) {
-            thrown = true;
-        }
-        due("voice(" + voice + ", " + beat + ") throws", thrown, true);
-    }
-
-    // ---------------------------------------------------------------- telling texts
-
-    private static long word(String text, int from) {
-        long w = 0;
-        for (int i = from; i < from + 8; i++) {
-            w = w << 8 | (i < text.length() ? text.charAt(i) : 0);
-        }
-        return w;
-    }
-
-    private static int tell(EchoTune x, String text) {
-        int signs = x.count(8);
-        for (int i = 0; i < text.length(); i += 24) {
-            signs = x.feed(word(text, i), word(text, i + 8), word(text, i + 16));
-        }
-        return signs;
-    }
-
-    private static int cliff(EchoTune x, String text) {
-        tell(x, text);
-        return x.cliff();
-    }
-
-    private static int draft(EchoTune x, String text) {
-        tell(x, text);
-        return x.draft();
-    }
-
-    private static EchoTune on(String cliff) {
-        EchoTune x = new EchoTune();
-        due("cliff '" + cliff + "'", cliff(x, cliff), 0);
-        return x;
-    }
-
-    private static EchoTune on(String cliff, String draft) {
-        EchoTune x = on(cliff);
-        due("draft '" + draft + "'", draft(x, draft), 0);
-        return x;
-    }
-
-    private static void cliffFault(String text, int kind, int place) {
-        due("cliff '" + text + "'", cliff(new EchoTune(), text), kind + 16 * place);
-    }
-
-    private static void draftFault(String text, int kind, int place) {
-        due("draft '" + text + "'", draft(new EchoTune(), text), kind + 16 * place);
-    }
-
-    private static String times(String text, int many) {
-        return text.repeat(many);
-    }
-
-    // ---------------------------------------------------------------- the promises
-
+public final class PromiseTest extends Checks {
     private static void face() {
         TreeSet<String> names = new TreeSet<>();
         TreeSet<String> hidden = new TreeSet<>();
@@ -433,12 +352,6 @@ public final class PromiseTest {
         clash(behind, 64, 0, 1, 1, 0);
         behind = on("echo late 64 up 0 twice;echo late 64 up 11 twice;law apart=12;", "2");
         clash(behind, 64, 1, 2, 1, 0);
-    }
-
-    private static void clash(EchoTune x, int... want) {
-        for (int i = 0; i < want.length; i++) {
-            due("clash(" + i + ")", x.clash(i), want[i]);
-        }
     }
 
     private static void promise10() {
@@ -855,12 +768,9 @@ public final class PromiseTest {
             PromiseTest::promise20, PromiseTest::promise21, PromiseTest::promise22, PromiseTest::promise23,
             PromiseTest::promise24, PromiseTest::promise25, PromiseTest::promise26};
         for (int i = 0; i < all.length; i++) {
-            promise = i == 0 ? "the face" : "promise " + i;
+            begin(i == 0 ? "the face" : "promise " + i);
             all[i].run();
         }
-        System.out.println(asked + " answers, " + wrong + " wrong");
-        if (wrong != 0) {
-            System.exit(1);
-        }
+        finish();
     }
 }

@@ -83,6 +83,18 @@ public final class TermBoundsTest extends Checks {
         for (String near : all) {
             cliffFault(near + " 3;", 1, 0);
         }
+        String[] lines = {"notes", "meter", "echo", "law", "leap", "pair"};
+        for (String word : lines) {
+            otherLetters(word, "", " 3;");
+        }
+        for (String word : new String[] {"strong", "apart", "was", "move", "other", "not"}) {
+            otherLetters(word, "pair ", " 1;");
+        }
+        for (String word : new String[] {"rest", "again", "up", "down"}) {
+            for (int i = 0; i < word.length(); i++) {
+                draftFault(word.substring(0, i) + "x" + word.substring(i + 1) + " 1(2)", 1, 0);
+            }
+        }
         String[] facts = {"stron", "strongs", "apar", "aparts", "wa", "wass", "mov", "moves", "othe", "others", "no", "nota"};
         for (String near : facts) {
             cliffFault("pair " + near, 1, 5);
@@ -90,6 +102,12 @@ public final class TermBoundsTest extends Checks {
         String[] items = {"res", "resta", "agai", "agains", "u", "ups", "dow", "downs"};
         for (String near : items) {
             draftFault(near + " 3(", 1, 0);
+        }
+    }
+
+    private static void otherLetters(String word, String ahead, String behind) {
+        for (int i = 0; i < word.length(); i++) {
+            cliffFault(ahead + word.substring(0, i) + "x" + word.substring(i + 1) + behind, 1, ahead.length());
         }
     }
 
@@ -111,6 +129,18 @@ public final class TermBoundsTest extends Checks {
         draftFault("0resta", 1, 1);
         draftFault("1234x", 4, 0);
         draftFault("12345x", 1, 0);
+        // 40, 41 and 59 are the bytes of ( ) and ; as well.
+        for (int sign = 40; sign <= 61; sign++) {
+            draftFault("again 1(0 00" + sign + "0", 1, 10);
+            draftFault("again 1(0 00" + sign, 4, 10);
+            draftFault("again 1 00" + sign, 1, 8);
+            cliffFault("law (1 00" + sign + "0", 1, 7);
+            cliffFault("law 1 00" + sign, 1, 6);
+        }
+        draftFault("again 1(abcdefghi)", 1, 8);
+        draftFault("again 1(0)abcdefghi", 1, 10);
+        cliffFault("law 1;abcdefghi", 1, 6);
+        cliffFault("law (1)abcdefghi", 1, 7);
     }
 
     /** "the signs ( ) < = + - * ;  All else ... is none"; "blanks (10, 32) between where one likes". */
@@ -749,6 +779,17 @@ public final class TermBoundsTest extends Checks {
         for (int n = 1; n <= 6; n++) {
             due("many(" + n + ", 0)", x.many(n, 0), tunesByHand(n));
         }
+        // BEAT 3 is strong, so the echoes behind the end clash there, and not in BEAT 2.
+        x = on("notes 2;meter 3;echo late 2 up 0;echo late 2 up 1;law not strong;");
+        int[] want = {2, 0, 0, 0};
+        for (int n = 1; n <= 4; n++) {
+            due("strong behind the end, many(" + n + ", 0)", x.many(n, 0), want[n - 1]);
+            due("strong behind the end, least(" + n + ")", x.least(n), want[n - 1] == 0 ? -1 : 0);
+        }
+        x.fix(1, -1);
+        due("a rest where it would be strong", x.many(2, 0), 2);
+        due("a rest where it would be strong", x.many(3, 0), 4);
+        due("strong again", x.many(5, 0), 0);
         EchoTune none = on("notes 2;leap 0;");
         due("one BEAT", none.many(1, 0), 2);
         for (int part = 0; part < 8; part++) {
@@ -814,6 +855,8 @@ public final class TermBoundsTest extends Checks {
             due("endless(999)", x.endless(999), 999 % notes);
         }
         due("a single BEAT", on("notes 2;meter 1;leap 0;").longest(), 1);
+        // Of meter 1 and DEPTH 1 a single note that stays is a circle already.
+        stays();
         due("till the echo comes", on("notes 2;echo late 7 up 0;law 0;").longest(), 7);
         due("till the strong one", on("notes 2;meter 8;leap not strong;").longest(), 8);
         // The law of the echoes behind the end does not count while one can still sing.
@@ -825,6 +868,22 @@ public final class TermBoundsTest extends Checks {
         due("downwards alone", on("notes 12;leap move<0;").longest(), 12);
         due("downwards alone", on("notes 12;leap move<0-1;").longest(), 6);
         endlessRows();
+    }
+
+    /** A note that stays for ever, a row that climbs and stays, a row that can only climb. */
+    private static void stays() {
+        for (int meter = 1; meter <= 8; meter++) {
+            for (int notes = 2; notes <= 12; notes++) {
+                EchoTune x = on("notes " + notes + ";meter " + meter + ";leap move=0;");
+                for (int i : new int[] {0, 1, 2, 500, 999}) {
+                    due("it stays, endless(" + i + ")", x.endless(i), 0);
+                }
+                x = on("notes " + notes + ";meter " + meter + ";echo late 1 up 0;leap not(move<0);law apart=1 or apart=0;");
+                due("there is an ENDLESS one", x.longest(), -1);
+                x = on("notes " + notes + ";meter " + meter + ";echo late 1 up 0;leap not(move<0);law apart=1;");
+                due("there is none", x.longest(), notes);
+            }
+        }
     }
 
     private static void endlessRows() {
